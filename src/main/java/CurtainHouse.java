@@ -20,7 +20,7 @@ public final class CurtainHouse {
     /** Stands for an end that no bolt can reach. */
     private static final int NOWHERE = 1 << 30;
     /** Stands for a number of bolts that no plan can have. */
-    private static final byte NEVER = 100;
+    private static final int NEVER = 100;
 
     /** Kinds of tokens: the words are numbered as they stand in WORDS. */
     private static final int WINDOW = 0;
@@ -44,7 +44,7 @@ public final class CurtainHouse {
         0x6c696e696e67L, 0x66756c6cL, 0x68656d73L, 0x73706c6974L,
     };
 
-    /** By word: the numbers that may stand behind it (cloths aside, which come and go by object). */
+    /** By word: the numbers that may stand behind it (but for cloths: there the stock tells). */
     private static final int[] LEAST = {0, 100, 200, 0, 0, 100, 0, 0};
     private static final int[] MOST = {0, 5000, 5000, 0, 0, 400, 1000, 0};
 
@@ -290,10 +290,6 @@ public final class CurtainHouse {
         return amount * (i + 1) / parts - amount * i / parts;
     }
 
-    private static int divideUp(int amount, int by) {
-        return by <= 0 ? 0 : (amount + by - 1) / by;
-    }
-
     /** A cloth. */
     private static final class Cloth {
         final int number;
@@ -316,6 +312,11 @@ public final class CurtainHouse {
 
         int phaseOf(int panel) {
             return half && panel % 2 != 0 ? repeat / 2 : 0;
+        }
+
+        /** The first place from one on at which the pattern is as the phase wants it. */
+        int nextPlace(int from, int phase) {
+            return repeat <= 0 ? from : from + Math.floorMod(phase - from, repeat);
         }
     }
 
@@ -363,12 +364,9 @@ public final class CurtainHouse {
 
         /** The first place from one on at which a drop of that phase and size lies, or NOWHERE. */
         int placeFor(int from, int phase, int size) {
-            int place = from;
+            int place = cloth.nextPlace(from, phase);
             // Each round but the last leaves a flaw behind, so there is one round more than flaws.
             for (int round = 0; round <= flawCount; round++) {
-                if (cloth.repeat > 0) {
-                    place += Math.floorMod(phase - place, cloth.repeat);
-                }
                 if (place + size > length) {
                     return NOWHERE;
                 }
@@ -376,7 +374,7 @@ public final class CurtainHouse {
                 if (flaw == NONE) {
                     return place;
                 }
-                place = flaw + 1;
+                place = cloth.nextPlace(flaw + 1, phase);
             }
             return NOWHERE;
         }
@@ -578,6 +576,10 @@ public final class CurtainHouse {
             panels = Math.min(wanted, MAX_PANELS);
             size = divideUp(height * 1000, 1000 - cloth.shrink);
             return wanted <= MAX_PANELS;
+        }
+
+        private static int divideUp(int amount, int by) {
+            return by <= 0 ? 0 : (amount + by - 1) / by;
         }
 
         boolean isLacking(int panel) {
@@ -943,6 +945,8 @@ public final class CurtainHouse {
         private int panels;
         /** The bolt that it must be cut from, or NONE. */
         private int onlyBolt;
+        /** Its drops' lengths together: it never takes less of a bolt. */
+        int least;
 
         Item() {
             layer = null;
@@ -952,18 +956,16 @@ public final class CurtainHouse {
             layer = newLayer;
             panels = newPanels;
             onlyBolt = newOnlyBolt;
+            least = drops() * layer.size;
         }
 
         int drops() {
             return Integer.bitCount(panels);
         }
 
-        /** Where it ends if it is cut from a place on, or NOWHERE; its drops are laid if cutting. */
+        /** Where it ends if it is cut from a place on, or NOWHERE; if cutting, its drops are laid. */
         int endOn(Bolt bolt, int from, boolean cutting) {
-            if (layer == null || layer.cloth == null) {
-                return NOWHERE;
-            }
-            if (onlyBolt != NONE && onlyBolt != bolt.number) {
+            if (layer == null || (onlyBolt != NONE && onlyBolt != bolt.number)) {
                 return NOWHERE;
             }
             int at = from;
@@ -971,7 +973,7 @@ public final class CurtainHouse {
                 if ((panels & 1 << panel) == 0) {
                     continue;
                 }
-                int place = bolt.placeFor(at, layer.cloth.phaseOf(panel), layer.size);
+                int place = bolt.placeFor(at, bolt.cloth.phaseOf(panel), layer.size);
                 if (place == NOWHERE) {
                     return NOWHERE;
                 }
@@ -990,7 +992,7 @@ public final class CurtainHouse {
         private int itemCount;
         /** The cloth's bolts, the lowest first. */
         private final Bolt[] shelf;
-        private int shelfCount;
+        int shelfCount;
         /** By bolt of the shelf: the set that the plan cuts from it. */
         private final int[] chosen;
         /** By set: bits of the bolts of the shelf that can have it. */
@@ -1025,6 +1027,9 @@ public final class CurtainHouse {
             }
             if (itemCount > MAX_ITEMS) {
                 return TOO_MANY_ITEMS;
+            }
+            if (stock.fewestBolts(cloth, order.lackingLength(cloth)) == NONE) {
+                return NONE;
             }
             int all = (1 << itemCount) - 1;
             Arrays.fill(fits, 0);
@@ -1117,7 +1122,10 @@ public final class CurtainHouse {
                         best = NOWHERE;
                         break;
                     }
-                    best = Math.min(best, items[which[last]].endOn(bolt, before, false));
+                    Item item = items[which[last]];
+                    if (before + item.least < best) {
+                        best = Math.min(best, item.endOn(bolt, before, false));
+                    }
                 }
                 ends[set] = best;
             }
@@ -1140,7 +1148,7 @@ public final class CurtainHouse {
         }
 
         private void fillNeeds(int all) {
-            Arrays.fill(needs[shelfCount], NEVER);
+            Arrays.fill(needs[shelfCount], (byte) NEVER);
             needs[shelfCount][0] = 0;
             for (int rank = shelfCount - 1; rank >= 0; rank--) {
                 // Of the lowest bolt nothing but the whole is asked.

@@ -532,6 +532,7 @@ public final class ModelTest {
     // ---- comparing
 
     private static String trace = "";
+    private static int longest = 5000;
 
     private static void due(String call, long got, long want) {
         if (got != want) {
@@ -628,46 +629,82 @@ public final class ModelTest {
 
     // ---- random runs
 
-    private static String randomWindow(Random r, String name, int cloths, int most) {
-        List<String> parts = new ArrayList<>();
-        int sides = 1 + r.nextInt(2);
-        StringBuilder wide = new StringBuilder("wide");
-        for (int i = 0; i < sides; i++) {
-            wide.append(' ').append(100 + r.nextInt(most));
+    /** A window as the next texts have it, so that an order anew is much like the one before. */
+    static final class Draft {
+        final String name;
+        int wide, drop, face, lining, full, hems;
+        boolean split;
+
+        Draft(Random r, String name, int cloths) {
+            this.name = name;
+            for (int part = 0; part < 7; part++) {
+                change(r, part, cloths);
+            }
         }
-        parts.add(wide.toString());
-        parts.add("drop " + (200 + (r.nextInt(4) == 0 ? r.nextInt(2000) : 100 * r.nextInt(8))));
-        parts.add("face " + r.nextInt(cloths));
-        if (r.nextInt(3) == 0) {
-            parts.add("lining " + r.nextInt(cloths));
+
+        void change(Random r, int part, int cloths) {
+            switch (part) {
+                case 0 -> wide = 100 + r.nextInt(r.nextBoolean() ? 300 : 1200);
+                case 1 -> drop = 200 + (r.nextInt(4) == 0 ? r.nextInt(1500) : 100 * r.nextInt(4));
+                case 2 -> face = r.nextInt(cloths);
+                case 3 -> lining = r.nextInt(3 * cloths);
+                case 4 -> full = 100 + r.nextInt(200);
+                case 5 -> hems = r.nextInt(200);
+                default -> split = r.nextInt(3) == 0;
+            }
         }
-        if (r.nextInt(3) == 0) {
-            parts.add("full " + (100 + r.nextInt(200)));
+
+        String text(Random r, int cloths) {
+            List<String> parts = new ArrayList<>();
+            parts.add(wide >= 200 && r.nextBoolean() ? "wide 100 " + (wide - 100) : "wide " + wide);
+            parts.add("drop " + drop);
+            parts.add("face " + face);
+            if (lining < cloths) {
+                parts.add("lining " + lining);
+            }
+            if (full != 200) {
+                parts.add("full " + full);
+            }
+            if (hems < 150) {
+                parts.add("hems " + hems);
+            }
+            if (split) {
+                parts.add("split");
+            }
+            java.util.Collections.shuffle(parts, r);
+            String blank = r.nextInt(5) == 0 ? "\n" : " ";
+            return "window " + name + (r.nextBoolean() ? ":" : " : ") + String.join(blank, parts) + ";";
         }
-        if (r.nextInt(3) == 0) {
-            parts.add("hems " + r.nextInt(200));
-        }
-        if (r.nextInt(3) == 0) {
-            parts.add("split");
-        }
-        java.util.Collections.shuffle(parts, r);
-        String blank = r.nextInt(5) == 0 ? "\n" : " ";
-        return "window " + name + (r.nextBoolean() ? ":" : " : ") + String.join(blank, parts) + ";";
     }
 
     private static final String[] SHREDS = {";", ":", "window", "wide", "drop", "face", "lining", "full", "hems",
         "split", "0", "99", "100", "5000", "5001", "a", "b", "abcdefgh", "abcdefghi", "Wide", "\t", "\0", "\u00e9",
         "9999999999999", "000000000000100", " ", "200", "199", "400", "401", "1000", "1001", "1 2", "12"};
 
-    private static String randomText(Random r, int cloths, int windows) {
+    private static final String[] NAMES = {"a", "b", "c", "d", "e", "A", "Bc", "abcdefgh"};
+
+    private static void changeDrafts(Random r, List<Draft> drafts, int cloths, int most) {
+        for (int i = drafts.size() - 1; i >= 0; i--) {
+            int luck = r.nextInt(20);
+            if (luck == 0) {
+                drafts.remove(i);
+            } else if (luck < 9) {
+                drafts.get(i).change(r, r.nextInt(4) == 0 ? 0 : r.nextInt(7), cloths);
+            }
+        }
+        int fresh = r.nextInt(3);
+        for (int i = 0; i < fresh && drafts.size() < most; i++) {
+            String name = NAMES[r.nextInt(NAMES.length)];
+            if (drafts.stream().noneMatch(d -> d.name.equals(name)) || r.nextInt(20) == 0) {
+                drafts.add(r.nextInt(drafts.size() + 1), new Draft(r, name, cloths));
+            }
+        }
+    }
+
+    private static String randomText(Random r, List<Draft> drafts, int cloths) {
         StringBuilder text = new StringBuilder();
-        List<String> names = new ArrayList<>(List.of("a", "b", "c", "d", "e", "A", "Bc", "abcdefgh"));
-        java.util.Collections.shuffle(names, r);
-        int n = r.nextInt(windows + 1);
-        int most = r.nextBoolean() ? 300 : 1200;
-        for (int i = 0; i < n; i++) {
-            String name = r.nextInt(40) == 0 ? names.get(0) : names.get(i);
-            text.append(randomWindow(r, name, cloths, most)).append(r.nextBoolean() ? " " : "");
+        for (Draft d : drafts) {
+            text.append(d.text(r, cloths)).append(r.nextBoolean() ? " " : "");
         }
         if (r.nextInt(6) == 0) {
             int at = r.nextInt(text.length() + 1);
@@ -684,35 +721,44 @@ public final class ModelTest {
         Random r = new Random(seed);
         CurtainHouse x = new CurtainHouse();
         Model m = new Model();
+        List<Draft> drafts = new ArrayList<>();
         trace = "seed " + seed + ": ";
+        longest = 1000 + 1000 * r.nextInt(5);
         compare(x, m);
         int cloths = 1 + r.nextInt(3);
         for (int i = 0; i < cloths; i++) {
             addCloth(r, x, m);
         }
-        for (int step = 0; step < 30; step++) {
-            int kind = r.nextInt(10);
-            if (kind < 2 && m.bolts.size() < bolts) {
-                addBolt(r, x, m);
-            } else if (kind < 4 && !m.bolts.isEmpty()) {
+        for (int step = 0; step < 40; step++) {
+            int kind = step < 3 ? 0 : r.nextInt(20);
+            if (kind < 3) {
+                if (m.bolts.size() < bolts) {
+                    addBolt(r, x, m);
+                }
+            } else if (kind < 5) {
                 addFlaw(r, x, m);
-            } else if (kind < 7) {
-                String text = randomText(r, cloths, windows);
+            } else if (kind < 11) {
+                changeDrafts(r, drafts, cloths, windows);
+                String text = randomText(r, drafts, cloths);
                 trace += "'" + text + "' ";
                 due("order()", tell(x, text), m.order(text));
             } else {
-                int c = r.nextInt(cloths + 1);
-                int n = m.items(c).size();
-                if (n > mostItems && n <= 10) {
-                    continue;
-                }
-                due("plan(" + c + ")", x.plan(c), m.plan(c));
-                if (r.nextInt(3) > 0) {
-                    trace += "cut(" + c + ") ";
-                    due("cut(" + c + ")", x.cut(c), m.cut(c));
-                }
+                planAndCut(r, x, m, mostItems);
             }
             compare(x, m);
+        }
+    }
+
+    private static void planAndCut(Random r, CurtainHouse x, Model m, int mostItems) {
+        int c = r.nextInt(20) == 0 ? m.cloths.size() : r.nextInt(m.cloths.size());
+        int n = m.items(c).size();
+        if (n > mostItems && n <= 10) {
+            return;
+        }
+        due("plan(" + c + ")", x.plan(c), m.plan(c));
+        if (r.nextInt(3) > 0) {
+            trace += "cut(" + c + ") ";
+            due("cut(" + c + ")", x.cut(c), m.cut(c));
         }
     }
 
@@ -720,7 +766,7 @@ public final class ModelTest {
         Cloth c = new Cloth();
         c.number = m.cloths.size();
         c.width = 300 + r.nextInt(500);
-        c.repeat = r.nextInt(3) == 0 ? 0 : 2 * r.nextInt(300);
+        c.repeat = r.nextInt(3) == 0 ? 0 : 2 * r.nextInt(150);
         c.half = c.repeat > 0 && r.nextBoolean();
         c.shrink = r.nextBoolean() ? 0 : r.nextInt(201);
         m.cloths.add(c);
@@ -732,7 +778,7 @@ public final class ModelTest {
         Bolt b = new Bolt();
         b.number = m.bolts.size();
         b.cloth = r.nextInt(m.cloths.size());
-        b.length = 100 + r.nextInt(r.nextInt(4) == 0 ? 8000 : 3000);
+        b.length = 100 + r.nextInt(r.nextInt(3) == 0 ? 16000 : longest);
         m.bolts.add(b);
         trace += "bolt(" + b.cloth + ", " + b.length + ") ";
         due("bolt", x.bolt(b.cloth, b.length), b.number);
@@ -753,7 +799,7 @@ public final class ModelTest {
         int times = args.length > 0 ? Integer.parseInt(args[0]) : 1;
         long first = args.length > 1 ? Long.parseLong(args[1]) : 1;
         for (long seed = first; seed < first + 400L * times; seed++) {
-            randomRun(seed, 4, 4, 5);
+            randomRun(seed, 5, 4, 5);
         }
         for (long seed = first + 1000000; seed < first + 1000000 + 60L * times; seed++) {
             randomRun(seed, 7, 6, 7);
