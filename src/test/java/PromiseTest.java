@@ -188,6 +188,7 @@ public final class PromiseTest {
         due("the order stays", x.layer(1, 0, 0), 2);
         due("order() of nothing", x.order(), 0);
         due("about(2)", x.about(2), 0);
+        due("names of all letters", tell(x, win("azAZ", 1, 300) + win("z", 1, 300) + win("Z", 1, 300)), 3);
         StringBuilder twelve = new StringBuilder();
         for (int i = 0; i < 12; i++) {
             twelve.append("window ").append((char) ('a' + i)).append(":wide 100drop 200face 0;");
@@ -328,6 +329,12 @@ public final class PromiseTest {
         due("long of c", x.layer(2, 0, 1), 627);
         due("long of c's lining", x.layer(2, 1, 1), 505);
         due("lacking of c's lining", x.layer(2, 1, 2), 6);
+        x.cloth(300, 0, false, 1);
+        tell(x, "window d:wide 140 drop 999 hems 0 face 3;window e:wide 140 drop 1000 hems 0 face 3;");
+        due("long of 999000 by 999", x.layer(0, 0, 1), 1000);
+        due("long of 1000000 by 999", x.layer(1, 0, 1), 1002);
+        tell(x, "window a:wide 139 drop 200 face 0 full 202;window b:wide 140 drop 200 face 0;"
+            + "window c:wide 1400 drop 201 hems 300 face 1 lining 2;");
         x.bolt(2, 10000);
         due("cut(2)", x.cut(2), 6);
         due("lacking of c's lining", x.layer(2, 1, 2), 0);
@@ -572,6 +579,22 @@ public final class PromiseTest {
         drops(x, 2, 1, 300);
         due("USED", x.boltOf(0, 2), 580);
         due("USED", x.boltOf(1, 2), 550);
+        // Ten items on twelve bolts, one each: the lowest bolt has the last of them.
+        x = plain(300, 300, 300, 300, 300, 300, 300, 300, 300, 300, 300, 300);
+        tell(x, split("a", 8, 300) + split("b", 2, 300));
+        due("plan(0)", x.plan(0), 10);
+        due("cut(0)", x.cut(0), 10);
+        drops(x, 0, 9, 0, 8, 0, 7, 0, 6, 0, 5, 0, 4, 0, 3, 0, 2, 0);
+        drops(x, 1, 1, 0, 0, 0);
+        due("USED of the 11th", x.boltOf(10, 2), 0);
+        // Ten items on one bolt, of which the last two come best behind one another.
+        x = house(100, false, 60000);
+        tell(x, split("a", 8, 250) + win("b", 1, 240) + win("c", 1, 300));
+        due("cut(0)", x.cut(0), 10);
+        drops(x, 0, 0, 0, 0, 300, 0, 600, 0, 900, 0, 1200, 0, 1500, 0, 1800, 0, 2100);
+        drops(x, 2, 0, 2400);
+        drops(x, 1, 0, 2700);
+        due("USED", x.boltOf(0, 2), 2940);
         // Nothing in the lowest bolt, if that takes fewer bolts.
         x = plain(300, 600);
         tell(x, win("a", 1, 300) + win("b", 1, 300));
