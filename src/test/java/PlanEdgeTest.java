@@ -101,8 +101,8 @@ public final class PlanEdgeTest {
             x.flaw(0, 299);
             return told(x, ones(300));
         }, NONE);
-        planned("in the last bolt of twelve", () -> told(House.plain(100, 101, 102, 103, 104, 105, 106, 107, 108, 109, 110,
-            300), ones(300)), 1, 1);
+        int[] lastFits = {100, 101, 102, 103, 104, 105, 106, 107, 108, 109, 110, 300};
+        planned("in the last bolt of twelve", () -> told(House.plain(lastFits), ones(300)), 1, 1);
         noPlan("of ten, one of which fits nowhere", () -> told(House.plain(1199, 1199, 1199),
             ones(200, 200, 200, 200, 200, 200, 200, 200, 200, 1200)), NONE);
         noPlan("of ten, too long together by one", () -> told(House.plain(999, 1000),
@@ -184,8 +184,8 @@ public final class PlanEdgeTest {
             House.with(House.win("a", 1, 300), "face 0 lining 0")), 1, 1);
         planned("of another window", () -> firstCut(599, House.win("a", 1, 300) + House.win("b", 1, 300)), 1, 1);
         planned("of a window of which nothing stays", () -> firstCut(599, House.win("a", 2, 301)), 1, 2);
-        planned("of the rest of a window, and another", () -> firstCut(600, House.win("a", 2, 300) + House.win("b", 1, 300)),
-            2, 2);
+        planned("of the rest of a window, and another", () -> firstCut(600,
+            House.win("a", 2, 300) + House.win("b", 1, 300)), 2, 2);
         noPlan("of the rest of two windows on one bolt", () -> {
             House x = told(House.plain(1100, 60000), ones(300, 300));
             x.cut(0);
@@ -217,11 +217,38 @@ public final class PlanEdgeTest {
         planned("of 3 in one", () -> told(House.plain(300, 300, 300, 900), House.split("a", 3, 300)), 1, 3);
         planned("of 4 in two", () -> told(House.plain(300, 300, 600, 600), House.split("a", 4, 300)), 2, 4);
         planned("of 4 in two", () -> told(House.plain(300, 300, 300, 900), House.split("a", 4, 300)), 2, 4);
+        Edges.says(15, "BOLTS of the PLAN: fewest, in whichever order the BOLTS come");
+        everyOrder(3, 2, 300, 300, 600);
+        everyOrder(3, 2, 300, 600, 300, 300);
+        everyOrder(4, 2, 300, 300, 300, 900);
+        everyOrder(4, 2, 300, 300, 600, 600);
+        everyOrder(5, 2, 300, 300, 600, 900);
+        everyOrder(5, 3, 300, 300, 600, 600);
+        everyOrder(6, 4, 300, 300, 300, 600, 600);
+        everyOrder(8, NONE, 300, 300, 600, 900);
         Edges.says(15, "in each BOLT an order of its ITEMS, so that all lie in it");
         planned("with b first", () -> told(House.patterned(100, false, 550), ones(250, 300)), 1, 2);
         noPlan("in no order", () -> told(House.patterned(100, false, 549), ones(250, 300)), NONE);
         planned("with c first, then b", () -> told(House.patterned(100, false, 950), ones(250, 300, 400)), 1, 3);
         noPlan("in no order", () -> told(House.patterned(100, false, 949), ones(250, 300, 400)), NONE);
+    }
+
+    /** Drops of 300, cut from bolts that come in each order. */
+    private static void everyOrder(int drops, int bolts, int... lengths) {
+        arrange(drops, bolts, lengths, 0);
+    }
+
+    private static void arrange(int drops, int bolts, int[] lengths, int from) {
+        if (from == lengths.length) {
+            String of = drops + " drops of 300 from bolts " + java.util.Arrays.toString(lengths);
+            due("plan(0) of " + of, told(House.plain(lengths), House.split("a", drops, 300)).plan(0), bolts);
+        }
+        for (int i = from; i < lengths.length; i++) {
+            int[] swapped = lengths.clone();
+            swapped[from] = lengths[i];
+            swapped[i] = lengths[from];
+            arrange(drops, bolts, swapped, from + 1);
+        }
     }
 
     // ---- promise 16
@@ -331,7 +358,13 @@ public final class PlanEdgeTest {
         cutFrom(House.plain(60000), ones(300, 250, 400), 0, 0, 0, 300, 0, 550);
         cutFrom(House.patterned(100, false, 60000), ones(250, 250, 300), 0, 0, 0, 600, 0, 300);
         cutFrom(House.patterned(100, false, 60000), ones(300, 250, 400), 0, 0, 0, 700, 0, 300);
-        cutFrom(House.patterned(100, false, 60000), ones(230, 300, 230, 300, 220), 0, 0, 0, 300, 0, 600, 0, 900, 0, 1200);
+        cutFrom(House.patterned(100, false, 60000), ones(230, 300, 230, 300, 220), 0, 0, 0, 300, 0, 600, 0, 900,
+            0, 1200);
+        Edges.says(17, "of these orders: of 10 ITEMS");
+        cutFrom(House.patterned(100, false, 2950), ones(250, 300, 300, 300, 300, 300, 300, 300, 300, 300),
+            0, 2700, 0, 0, 0, 300, 0, 600, 0, 900, 0, 1200, 0, 1500, 0, 1800, 0, 2100, 0, 2400);
+        cutFrom(House.patterned(100, false, 60000), ones(220, 300, 300, 300, 300, 300, 300, 300, 250, 210),
+            0, 0, 0, 300, 0, 600, 0, 900, 0, 1200, 0, 1500, 0, 1800, 0, 2100, 0, 2400, 0, 2700);
         Edges.says(17, "in each BOLT by itself");
         cutFrom(House.patterned(100, false, 550, 550), ones(250, 300, 250, 300), 1, 300, 1, 0, 0, 300, 0, 0);
     }
@@ -348,14 +381,14 @@ public final class PlanEdgeTest {
 
     private static void itemNumbers() {
         Edges.says(17, "ITEMS: WINDOW by WINDOW, LAYER by LAYER, DROP by DROP");
-        House x = told(House.plain(300, 300, 300, 300, 300, 300), House.with(House.split("a", 2, 300), "face 0 lining 0"),
-            House.win("b", 1, 300), House.win("c", 1, 300));
+        House x = told(House.plain(300, 300, 300, 300, 300, 300),
+            House.with(House.split("a", 2, 300), "face 0 lining 0"), House.win("b", 1, 300), House.win("c", 1, 300));
         due("cut(0)", x.cut(0), 6);
         Edges.drops(x, 0, 0, 5, 0, 4, 0);
         Edges.drops(x, 0, 1, 3, 0, 2, 0);
         Edges.drops(x, 1, 0, 1, 0);
         Edges.drops(x, 2, 0, 0, 0);
-        Edges.says(17, "An ITEM is cut from a place on: DROP by DROP by PANELS, each not ahead of the end of the one before");
+        Edges.says(17, "An ITEM is cut from a place on: DROP by DROP by PANELS, not ahead of the end of another");
         House y = told(House.plain(60000), House.win("a", 3, 300), House.split("b", 3, 200), House.win("c", 2, 250));
         due("cut(0)", y.cut(0), 8);
         Edges.drops(y, 0, 0, 0, 0, 0, 300, 0, 600);
@@ -458,7 +491,8 @@ public final class PlanEdgeTest {
         House y = House.plain(60000);
         y.cloth(300, 0, false, 100);
         y.bolt(1, 60000);
-        told(y, House.with(House.win("a", 3, 300), "face 0 lining 1"), House.with(House.win("b", 2, 300), "face 1 lining 0"));
+        told(y, House.with(House.win("a", 3, 300), "face 0 lining 1"),
+            House.with(House.win("b", 2, 300), "face 1 lining 0"));
         due("lacks(0)", y.lacks(0), 1500);
         due("lacks(1)", y.lacks(1), 5 * 334);
         y.cut(1);

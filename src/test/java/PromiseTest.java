@@ -1,4 +1,3 @@
-import java.nio.charset.StandardCharsets;
 import java.util.Arrays;
 
 /** Each promise of the document by its number: ordinary calls, the edges, and wrong calls. */
@@ -16,32 +15,17 @@ public final class PromiseTest {
         }
     }
 
-    /** Puts a text on the tape. */
-    private static void feed(CurtainHouse x, String text) {
-        byte[] bytes = text.getBytes(StandardCharsets.ISO_8859_1);
-        byte[] padded = Arrays.copyOf(bytes, (bytes.length + 19) / 20 * 20);
-        for (int i = 0; i < padded.length; i += 20) {
-            int[] v = new int[5];
-            for (int k = 0; k < 20; k++) {
-                v[k / 4] = v[k / 4] << 8 | padded[i + k] & 255;
-            }
-            x.feed(v[0], v[1], v[2], v[3], v[4]);
-        }
-        x.end(bytes.length);
-    }
-
-    private static int tell(CurtainHouse x, String text) {
-        feed(x, text);
-        return x.order();
+    private static int tell(House x, String text) {
+        return x.tell(text);
     }
 
     /** A house with one plain cloth of 300 and bolts of it. */
-    private static CurtainHouse plain(int... lengths) {
+    private static House plain(int... lengths) {
         return house(0, false, lengths);
     }
 
-    private static CurtainHouse house(int repeat, boolean half, int... lengths) {
-        CurtainHouse x = new CurtainHouse();
+    private static House house(int repeat, boolean half, int... lengths) {
+        House x = new House();
         due("cloth", x.cloth(300, repeat, half, 0), 0);
         for (int i = 0; i < lengths.length; i++) {
             due("bolt", x.bolt(0, lengths[i]), i);
@@ -49,17 +33,16 @@ public final class PromiseTest {
         return x;
     }
 
-    /** A window of that many panels (of cloth 0, of 300) whose drops have that length. */
     private static String win(String name, int panels, int length) {
-        return "window " + name + ":wide " + 140 * panels + " drop 200 face 0 hems " + (length - 200) + ";";
+        return House.win(name, panels, length);
     }
 
     private static String split(String name, int panels, int length) {
-        return win(name, panels, length).replace(";", " split;");
+        return House.split(name, panels, length);
     }
 
     private static void a01NewObject() {
-        CurtainHouse x = new CurtainHouse();
+        House x = new House();
         for (int what = 0; what <= 3; what++) {
             due("about(" + what + ")", x.about(what), 0);
         }
@@ -75,7 +58,7 @@ public final class PromiseTest {
         int[][] bad = {{299, 0, 0, 0}, {2001, 0, 0, 0}, {300, -1, 0, 0}, {300, 801, 0, 0}, {300, 0, 0, -1},
             {300, 0, 0, 201}, {300, 0, 1, 0}, {300, 3, 1, 0}, {LEAST, 0, 0, 0}, {MOST, 0, 0, 0}, {300, LEAST, 1, 0},
             {300, MOST, 0, 0}, {300, 0, 0, MOST}, {300, 0, 0, LEAST}, {300, -2, 1, 0}};
-        CurtainHouse x = new CurtainHouse();
+        House x = new House();
         for (int[] b : bad) {
             due("cloth" + Arrays.toString(b), x.cloth(b[0], b[1], b[2] == 1, b[3]), NONE);
         }
@@ -90,7 +73,7 @@ public final class PromiseTest {
     }
 
     private static void a03Bolt() {
-        CurtainHouse x = plain();
+        House x = plain();
         due("bolt(-1, 100)", x.bolt(-1, 100), NONE);
         due("bolt(1, 100)", x.bolt(1, 100), NONE);
         due("bolt(0, 99)", x.bolt(0, 99), NONE);
@@ -107,7 +90,7 @@ public final class PromiseTest {
     }
 
     private static void a04Flaw() {
-        CurtainHouse x = plain(1000);
+        House x = plain(1000);
         due("flaw(-1, 0)", x.flaw(-1, 0), NONE);
         due("flaw(1, 0)", x.flaw(1, 0), NONE);
         due("flaw(0, -1)", x.flaw(0, -1), NONE);
@@ -126,7 +109,7 @@ public final class PromiseTest {
     }
 
     private static void a05BoltOf() {
-        CurtainHouse x = plain(1000);
+        House x = plain(1000);
         x.cloth(400, 0, false, 0);
         due("bolt(1, 2000)", x.bolt(1, 2000), 1);
         x.flaw(1, 700);
@@ -143,7 +126,7 @@ public final class PromiseTest {
     }
 
     private static void a06Feed() {
-        CurtainHouse x = plain();
+        House x = plain();
         for (int i = 1; i <= 30; i++) {
             due("feed", x.feed(0x20202020, 0x20202020, 0x20202020, 0x20202020, 0x20202020), 20 * i);
         }
@@ -162,7 +145,7 @@ public final class PromiseTest {
     }
 
     private static void a07End() {
-        CurtainHouse x = plain();
+        House x = plain();
         due("end(0)", x.end(0), 0);
         due("end(1)", x.end(1), NONE);
         x.feed(0x3b3b3b3b, 0, 0, 0, 0);
@@ -179,7 +162,7 @@ public final class PromiseTest {
     }
 
     private static void a08Order() {
-        CurtainHouse x = plain(1000);
+        House x = plain(1000);
         due("order()", tell(x, win("a", 1, 300) + "\n" + win("A", 2, 300)), 2);
         due("the tape", x.about(3), 0);
         due("order() with a fault", tell(x, win("a", 1, 300) + ";"), NONE);
@@ -197,14 +180,14 @@ public final class PromiseTest {
         due("the 12th", x.window(11, 0), 100);
     }
 
-    private static void fault(CurtainHouse x, String text, int kind, int place) {
+    private static void fault(House x, String text, int kind, int place) {
         tell(x, text);
         due("fault(0) of '" + text + "'", x.fault(0), kind);
         due("fault(1) of '" + text + "'", x.fault(1), place);
     }
 
     private static void a09Fault() {
-        CurtainHouse x = plain();
+        House x = plain();
         due("fault(0)", x.fault(0), NONE);
         due("fault(1)", x.fault(1), NONE);
         String good = "window a:wide 100 drop 200 face 0;";
@@ -289,7 +272,7 @@ public final class PromiseTest {
     }
 
     private static void a10Window() {
-        CurtainHouse x = new CurtainHouse();
+        House x = new House();
         x.cloth(1020, 0, false, 0);
         x.cloth(520, 0, false, 100);
         tell(x, "window bay:wide 500 700 600 drop 1999 face 1 lining 0 full 150 hems 0 split;"
@@ -314,7 +297,7 @@ public final class PromiseTest {
     }
 
     private static void a11Layer() {
-        CurtainHouse x = new CurtainHouse();
+        House x = new House();
         x.cloth(300, 0, false, 0);
         x.cloth(1020, 0, false, 200);
         x.cloth(520, 0, false, 7);
@@ -347,7 +330,7 @@ public final class PromiseTest {
     }
 
     private static void a12Pleat() {
-        CurtainHouse x = new CurtainHouse();
+        House x = new House();
         x.cloth(1020, 0, false, 0);
         tell(x, "window a:wide 500 drop 200 face 0;window b:wide 100 drop 200 face 0 full 100;");
         // a: MORE 500, 4 pleats, 5 gaps; b: MORE 900, 1 pleat, 2 gaps
@@ -377,7 +360,7 @@ public final class PromiseTest {
         due("pleat(-1, 0, true)", x.pleat(-1, 0, true), NONE);
     }
 
-    private static void drops(CurtainHouse x, int w, int... boltsAndPlaces) {
+    private static void drops(House x, int w, int... boltsAndPlaces) {
         for (int p = 0; 2 * p < boltsAndPlaces.length; p++) {
             due("drop(" + w + ", 0, " + p + ", 0)", x.drop(w, 0, p, 0), boltsAndPlaces[2 * p]);
             due("drop(" + w + ", 0, " + p + ", 1)", x.drop(w, 0, p, 1), boltsAndPlaces[2 * p + 1]);
@@ -386,7 +369,7 @@ public final class PromiseTest {
 
     private static void a13Drop() {
         // Neighbours half a repeat apart.
-        CurtainHouse x = house(100, true, 1100);
+        House x = house(100, true, 1100);
         tell(x, win("a", 3, 300));
         drops(x, 0, NONE, NONE, NONE, NONE, NONE, NONE);
         due("cut(0)", x.cut(0), 3);
@@ -424,7 +407,7 @@ public final class PromiseTest {
     }
 
     private static void a14Lost() {
-        CurtainHouse x = plain(5000, 5000);
+        House x = plain(5000, 5000);
         x.cloth(300, 0, false, 0);
         x.bolt(1, 9000);
         String ab = win("a", 3, 300) + win("b", 2, 300);
@@ -475,7 +458,7 @@ public final class PromiseTest {
     }
 
     private static void a15Plan() {
-        CurtainHouse x = plain(300, 299);
+        House x = plain(300, 299);
         due("plan(-1)", x.plan(-1), NONE);
         due("plan(1)", x.plan(1), NONE);
         due("plan(MOST)", x.plan(MOST), NONE);
@@ -535,7 +518,7 @@ public final class PromiseTest {
     }
 
     private static void a16Bound() {
-        CurtainHouse x = plain(500, 900, 600);
+        House x = plain(500, 900, 600);
         due("bound(-1)", x.bound(-1), NONE);
         due("bound(1)", x.bound(1), NONE);
         due("bound(0)", x.bound(0), 0);
@@ -560,7 +543,7 @@ public final class PromiseTest {
     }
 
     private static void a17Cut() {
-        CurtainHouse x = plain(300);
+        House x = plain(300);
         due("cut(-1)", x.cut(-1), NONE);
         due("cut(1)", x.cut(1), NONE);
         due("cut(0)", x.cut(0), 0);
@@ -633,7 +616,7 @@ public final class PromiseTest {
     }
 
     private static void a18Lacks() {
-        CurtainHouse x = plain(60000);
+        House x = plain(60000);
         x.cloth(300, 0, false, 100);
         due("lacks(-1)", x.lacks(-1), NONE);
         due("lacks(2)", x.lacks(2), NONE);
@@ -649,8 +632,8 @@ public final class PromiseTest {
     }
 
     /** Windows of one cloth of 2000, all cut: minutes 10 + drop / 100 (one panel), 5 + 2 * pleats. */
-    private static CurtainHouse benchHouse(int[][] wideAndDrop) {
-        CurtainHouse x = new CurtainHouse();
+    private static House benchHouse(int[][] wideAndDrop) {
+        House x = new House();
         x.cloth(2000, 0, false, 0);
         x.bolt(0, 60000);
         StringBuilder text = new StringBuilder();
@@ -663,13 +646,13 @@ public final class PromiseTest {
         return x;
     }
 
-    private static void benchRow(CurtainHouse x, int i, int window, int done) {
+    private static void benchRow(House x, int i, int window, int done) {
         due("bench(" + i + ", 0)", x.bench(i, 0), window);
         due("bench(" + i + ", 1)", x.bench(i, 1), done);
     }
 
     private static void a19Benches() {
-        CurtainHouse x = plain(300);
+        House x = plain(300);
         due("benches()", x.benches(), 0);
         tell(x, win("a", 1, 300) + win("b", 2, 300).replace("face 0", "face 0 lining 0"));
         due("benches() if all lack", x.benches(), 0);
@@ -689,7 +672,7 @@ public final class PromiseTest {
 
     private static void a20Bench() {
         // minutes: a 30, 9; b 12, 21; c 15, 15; d 12, 31; e 40, 9; f 12, 21
-        CurtainHouse x = benchHouse(new int[][] {{240, 2000}, {960, 200}, {600, 500}, {1560, 299}, {240, 3000},
+        House x = benchHouse(new int[][] {{240, 2000}, {960, 200}, {600, 500}, {1560, 299}, {240, 3000},
             {960, 200}});
         benchRow(x, 0, 1, 12 + 21);
         benchRow(x, 1, 3, 33 + 31);
@@ -713,9 +696,9 @@ public final class PromiseTest {
     }
 
     private static void a21About() {
-        CurtainHouse x = plain(300, 400);
+        House x = plain(300, 400);
         tell(x, win("a", 1, 300) + win("b", 1, 300) + win("c", 1, 300));
-        feed(x, "window d");
+        x.put("window d");
         int[] want = {1, 2, 3, 8, NONE};
         for (int what = 0; what < want.length; what++) {
             due("about(" + what + ")", x.about(what), want[what]);

@@ -84,8 +84,8 @@ public final class TextEdgeTest {
     /** A house with a text of that length, of whose bytes each counts, on its tape. */
     private static House tapeOf(int length) {
         House x = House.plain();
-        String text = "window a:wide 1000 drop ".substring(0, Math.min(length, 24));
-        return x.put(text + "0".repeat(Math.max(length - 27, 0)) + "200".substring(0, Math.max(Math.min(length - 24, 3), 0)));
+        String text = "window a:wide 1000 drop " + "0".repeat(Math.max(length - 27, 0)) + "200";
+        return x.put(text.substring(0, length));
     }
 
     // ---- promise 7
@@ -173,7 +173,8 @@ public final class TextEdgeTest {
     private static void orderStays() {
         Edges.says(8, "NONE: it has a FAULT, the ORDER stays.");
         String[] faulty = {"?", GOOD + "?", GOOD + "window", GOOD + GOOD, "window a:wide 100 wide", "window a:wide 99",
-            "window a:wide 100 100 100 100 100 100 100 100 100", "window a:;", GOOD + "window b:wide 5000 drop 200 face 0;",
+            "window a:wide 100 100 100 100 100 100 100 100 100", "window a:;",
+            GOOD + "window b:wide 5000 drop 200 face 0;",
             "window zz:wide 140 drop 200 face 0 lining 0 split;window"};
         Unchanged busy = new Unchanged(() -> emptied(States.busy()), "text");
         Unchanged full = new Unchanged(() -> emptied(States.full()), "text");
@@ -268,6 +269,25 @@ public final class TextEdgeTest {
         }
     }
 
+    private static void notOfTheOneBefore() {
+        Edges.says(9, "1 it can't stand there: a NUMBER ahead of any PART, whatever the one before ended with");
+        String wideLast = "window a:drop 200 face 0 wide 100;";
+        fresh(wideLast + "window b:100", 1, wideLast.length() + 9);
+        House x = House.plain();
+        Edges.fault(x, wideLast, 0, NONE);
+        Edges.fault(x, "window b:100", 1, 9);
+        Edges.fault(x, "window b:wide 100", 1, 17);
+        Edges.fault(x, "window b:100", 1, 9);
+        Edges.says(9, "4 the 9th side: of one WINDOW");
+        String seven = "wide 100 100 100 100 100 100 100";
+        Edges.fault(x, "window b:" + seven, 1, 9 + seven.length());
+        Edges.fault(x, "window b:" + seven + " 100 drop 200 face 0;", 0, NONE);
+        Edges.says(9, "2 for the second time: in a text that has a FAULT further on nothing is told");
+        Edges.fault(x, wideLast + "window b:wide 100 ?", 1, wideLast.length() + 18);
+        Edges.fault(x, "window b:face 0 wide 100 drop 200;", 0, NONE);
+        Edges.fault(x, wideLast + "window b:;", 5, wideLast.length() + 9);
+    }
+
     private static void everyByte() {
         Edges.says(9, "TOKENS, blanks (32, 10) aside: letters, digits, : ; (1: or is none)");
         for (int b = 0; b < 256; b++) {
@@ -281,7 +301,8 @@ public final class TextEdgeTest {
             Edges.fault(x, GOOD + c, blank ? 0 : 1, blank ? NONE : GOOD.length());
             // as a name, and within one
             Edges.fault(x, GOOD.replace("a:", c + ":"), letter ? 0 : 1, letter ? NONE : blank ? 8 : 7);
-            Edges.fault(x, GOOD.replace("a:", "a" + c + "b:"), letter ? 0 : 1, letter ? NONE : blank || c == ':' ? 9 : 8);
+            int place = letter ? NONE : blank || c == ':' ? 9 : 8;
+            Edges.fault(x, GOOD.replace("a:", "a" + c + "b:"), letter ? 0 : 1, place);
             // behind a number
             String text = GOOD.replace("100 ", "100" + c);
             if (digit || blank) {
@@ -305,7 +326,7 @@ public final class TextEdgeTest {
         for (String word : WORDS) {
             fresh("window " + word + ":", 1, 7);
             String near = word.substring(0, word.length() - 1);
-            for (String name : List.of(word.toUpperCase(), near, word + "s", "x" + word, word.replace('i', 'I') + "A")) {
+            for (String name : List.of(word.toUpperCase(), near, word + "s", "x" + word, word + "A")) {
                 fresh(GOOD.replace("a:", name + ":"), 0, NONE);
             }
             fresh("window a:" + word.toUpperCase() + " 100", 1, 9);
@@ -475,6 +496,7 @@ public final class TextEdgeTest {
         orderStays();
         faultOfTexts();
         everyTokenEverywhere();
+        notOfTheOneBefore();
         everyByte();
         names();
         numbers();

@@ -34,7 +34,8 @@ public final class WindowEdgeTest {
             due("window(2, " + what + ")", x.window(2, what), bare[what]);
         }
         Edges.says(10, "Without full: 200; hems: 300; lining: none - of each WINDOW by itself");
-        x.tell("window a:wide 100 drop 200 face 0 lining 1 full 400 hems 1000 split;window b:wide 100 drop 200 face 0;");
+        x.tell("window a:wide 100 drop 200 face 0 lining 1 full 400 hems 1000 split;"
+            + "window b:wide 100 drop 200 face 0;");
         due("window(1, 3)", x.window(1, 3), NONE);
         due("window(1, 4)", x.window(1, 4), 200);
         due("window(1, 5)", x.window(1, 5), 300);
@@ -54,6 +55,37 @@ public final class WindowEdgeTest {
             x.tell("window a:" + String.join(" ", turned) + ";");
             for (int what = 0; what <= 6; what++) {
                 due("window(0, " + what + ")", x.window(0, what), new int[] {150, 250, 1, 0, 150, 50, 1}[what]);
+            }
+        }
+    }
+
+    /** A window with all parts, and then, some texts later, one of that name and number with the least. */
+    private static void nothingStays() {
+        Edges.says(10, "Without full: 200; hems: 300; lining: none - whatever texts came before");
+        String much = "window a:wide 990 drop 5000 face 1 lining 1 full 400 hems 1000 split;";
+        String bare = "window a:wide 100 drop 200 face 0;";
+        for (int between = 0; between <= 3; between++) {
+            for (String text : new String[] {"", much, bare, much + "?", much + bare}) {
+                House x = twoCloths();
+                x.tell(much);
+                for (int i = 0; i < between; i++) {
+                    x.tell(text);
+                }
+                due("order()", x.tell(bare), 1);
+                for (int what = 0; what <= 10; what++) {
+                    due("window(0, " + what + ") behind " + between + " of '" + text + "'", x.window(0, what),
+                        new int[] {100, 200, 0, NONE, 200, 300, 0, 1, 180, 12, 7}[what]);
+                }
+                due("layer(0, 0, 0)", x.layer(0, 0, 0), 1);
+                due("layer(0, 0, 1)", x.layer(0, 0, 1), 500);
+                due("layer(0, 0, 2)", x.layer(0, 0, 2), 1);
+                due("layer(0, 1, 0)", x.layer(0, 1, 0), NONE);
+                due("layer(0, 1, 2)", x.layer(0, 1, 2), NONE);
+                due("lacks(1)", x.lacks(1), 0);
+                x.bolt(0, 500);
+                due("plan(0)", x.plan(0), 1);
+                due("cut(0)", x.cut(0), 1);
+                due("benches()", x.benches(), 19);
             }
         }
     }
@@ -319,6 +351,7 @@ public final class WindowEdgeTest {
 
     public static void main(String[] args) {
         windowParts();
+        nothingStays();
         windowNumbers();
         sides();
         pleatsAndMore();
