@@ -43,6 +43,13 @@ public final class TextEdgeTest {
                 due("fault(1), byte " + k + " being " + strange, x.fault(1), k);
             }
         }
+        for (int number : Edges.row(Edges.LEAST, Edges.LEAST + 1, -1, 0, 1, Edges.MOST)) {
+            House ends = new House();
+            due("feed of blanks and " + number, ends.feed(BLANKS, BLANKS, BLANKS, BLANKS, number), 20);
+            due("feed of " + number, ends.feed(number, number, number, number, number), 40);
+            due("order()", ends.order(), NONE);
+            due("fault(1), its first byte being strange", ends.fault(1), 16);
+        }
         House x = new House();
         x.cloth(2000, 0, false, 0);
         due("feed", x.feed(0x77696e64, 0x6f772061, 0x3a776964, 0x65203132, 0x33346472), 20);
