@@ -945,6 +945,7 @@ public final class CurtainHouse {
         private int panels;
         /** The bolt that it must be cut from, or NONE. */
         private int onlyBolt;
+        int drops;
         /** Its drops' lengths together: it never takes less of a bolt. */
         int least;
 
@@ -956,11 +957,8 @@ public final class CurtainHouse {
             layer = newLayer;
             panels = newPanels;
             onlyBolt = newOnlyBolt;
-            least = drops() * layer.size;
-        }
-
-        int drops() {
-            return Integer.bitCount(panels);
+            drops = Integer.bitCount(newPanels);
+            least = drops * newLayer.size;
         }
 
         /** Where it ends if it is cut from a place on, or NOWHERE; if cutting, its drops are laid. */
@@ -1200,7 +1198,7 @@ public final class CurtainHouse {
                 int next = firstOnBestWay(bolt, left, goal);
                 Item item = items[members[next]];
                 bolt.used = item.endOn(bolt, bolt.used, true);
-                drops += item.drops();
+                drops += item.drops;
                 System.arraycopy(members, next + 1, members, next, left - next - 1);
             }
             return drops;

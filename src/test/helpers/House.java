@@ -17,6 +17,11 @@ final class House {
         return inner;
     }
 
+    /** How many calls more it may be asked. */
+    int left() {
+        return PROMISED_CALLS - calls;
+    }
+
     int cloth(int width, int repeat, boolean half, int shrink) {
         return asked().cloth(width, repeat, half, shrink);
     }

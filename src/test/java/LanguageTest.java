@@ -5,6 +5,7 @@ import java.lang.reflect.Method;
 import java.lang.reflect.Modifier;
 import java.nio.file.Files;
 import java.nio.file.Path;
+import java.util.Arrays;
 import java.util.List;
 import java.util.Set;
 import java.util.TreeSet;
@@ -48,6 +49,8 @@ public final class LanguageTest {
         for (Field f : house.getDeclaredFields()) {
             must(Modifier.isPrivate(f.getModifiers()) || f.getName().equals("NONE"), f + " is private");
         }
+        must(Arrays.stream(house.getFields()).map(Field::toString).toList()
+            .equals(List.of("public static final int CurtainHouse.NONE")), "the one constant is NONE");
         for (Constructor<?> c : house.getDeclaredConstructors()) {
             must(Modifier.isPublic(c.getModifiers()) && c.getParameterCount() == 0, c + " is the document's");
         }

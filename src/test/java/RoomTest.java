@@ -1,7 +1,15 @@
 import com.sun.management.ThreadMXBean;
 import java.lang.management.ManagementFactory;
+import java.lang.reflect.Array;
+import java.lang.reflect.Field;
+import java.lang.reflect.Modifier;
 import java.nio.charset.StandardCharsets;
+import java.util.ArrayDeque;
 import java.util.Arrays;
+import java.util.Collections;
+import java.util.Deque;
+import java.util.IdentityHashMap;
+import java.util.Set;
 
 /**
  * All calls of a run live in one room that is never swept: a new object is small, the planner's
@@ -32,7 +40,7 @@ public final class RoomTest {
     }
 
     private static int tell(CurtainHouse x, int[] v, int length) {
-        for (int i = 0; i < 30; i++) {
+        for (int i = 0; 20 * i < length; i++) {
             x.feed(v[5 * i], v[5 * i + 1], v[5 * i + 2], v[5 * i + 3], v[5 * i + 4]);
         }
         x.end(length);
@@ -61,9 +69,10 @@ public final class RoomTest {
         return x;
     }
 
-    private static boolean laterCalls(CurtainHouse x, int[] text, int length, int[] bad, int times) {
+    /** Some 370 calls, so that with those that made the house an object has fewer than 512. */
+    private static boolean laterCalls(CurtainHouse x, int[] text, int length, int[] bad) {
         boolean good = tell(x, text, length) == 10;
-        for (int i = 0; i < times; i++) {
+        for (int i = 0; i < 40; i++) {
             x.plan(0);
             tell(x, bad, 15);
             x.bound(0);
@@ -76,12 +85,7 @@ public final class RoomTest {
         return good && x.cut(0) == 0 && made() > 0;
     }
 
-    public static void main(String[] args) {
-        int[] text = packed(dearText());
-        int length = dearText().length();
-        int[] bad = packed("window a:wide 1");
-        // Once without counting, since the machine makes things of its own when it loads a class.
-        laterCalls(dearHouse(20000), text, length, bad, 1);
+    private static void newObject() {
         long before = made();
         CurtainHouse first = new CurtainHouse();
         atMost("bytes of a new object", made() - before, 20000);
@@ -89,26 +93,98 @@ public final class RoomTest {
         before = made();
         CurtainHouse x = dearHouse(20000);
         atMost("bytes of a house with 12 bolts", made() - before, 24000);
-        before = made();
-        long start = System.nanoTime();
-        if (tell(x, text, length) != 10) {
-            atMost("windows that were not read", 10, 0);
+        atMost("windows of a house with 12 bolts", x.about(2), 0);
+    }
+
+    /** All that an object holds: objects and arrays, and their fields and elements. */
+    private static int[] held(Object house) throws IllegalAccessException {
+        Set<Object> seen = Collections.newSetFromMap(new IdentityHashMap<>());
+        Deque<Object> open = new ArrayDeque<>();
+        seen.add(house);
+        open.add(house);
+        int parts = 0;
+        while (!open.isEmpty()) {
+            for (Object part : partsOf(open.remove())) {
+                parts++;
+                if (part != null && !(part instanceof Number) && !(part instanceof Boolean) && seen.add(part)) {
+                    open.add(part);
+                }
+            }
         }
-        x.plan(0);
-        atMost("bytes of the first plan", made() - before, 30000);
-        before = made();
-        if (!laterCalls(x, text, length, bad, 200)) {
-            atMost("wrong cuts", 1, 0);
+        return new int[] {seen.size(), parts};
+    }
+
+    private static Object[] partsOf(Object of) throws IllegalAccessException {
+        if (of.getClass().isArray()) {
+            Object[] out = new Object[Array.getLength(of)];
+            Arrays.setAll(out, i -> Array.get(of, i));
+            return out;
         }
-        // One object a round would be 3200 bytes at least; the machine itself makes a few now and then.
+        Field[] fields = Arrays.stream(of.getClass().getDeclaredFields())
+            .filter(f -> !Modifier.isStatic(f.getModifiers())).toArray(Field[]::new);
+        Object[] out = new Object[fields.length];
+        for (int f = 0; f < fields.length; f++) {
+            fields[f].setAccessible(true);
+            out[f] = fields[f].get(of);
+        }
+        return out;
+    }
+
+    /** 512 objects, or as many as can plan something within 512 calls, keep far within the room. */
+    private static void objectsAndElements(int[] text, int length) throws IllegalAccessException {
+        int[] first = held(new CurtainHouse());
+        atMost("objects of a new house", first[0], 240);
+        atMost("elements of a new house", first[1], 2800);
+        CurtainHouse x = dearHouse(20000);
+        tell(x, text, length);
+        x.cut(0);
+        int[] all = held(x);
+        atMost("objects of a house that has planned", all[0], 320);
+        atMost("elements of a house that has planned", all[1], 18500);
+    }
+
+    private static void callsOfMany(int[] text, int length, int[] bad) {
+        CurtainHouse[] houses = new CurtainHouse[10];
+        for (int h = 0; h < houses.length; h++) {
+            houses[h] = dearHouse(20000);
+        }
+        long before = made();
+        boolean good = true;
+        for (CurtainHouse x : houses) {
+            good &= tell(x, text, length) == 10;
+            x.plan(0);
+        }
+        atMost("bytes of the first plans", made() - before, 30000 * houses.length);
+        before = made();
+        for (CurtainHouse x : houses) {
+            good &= laterCalls(x, text, length, bad);
+        }
+        // One object a round would be 6400 bytes at least; the machine itself makes a few now and then.
         atMost("bytes of all later calls", made() - before, 1000);
-        for (int bolts = 2000; bolts < 24000; bolts += 500) {
-            CurtainHouse y = dearHouse(bolts);
-            tell(y, text, length);
-            y.plan(0);
-            y.cut(0);
+        atMost("wrong answers", good ? 0 : 1, 0);
+    }
+
+    private static void dearestCalls(int[] text, int length) {
+        long start = System.nanoTime();
+        for (int bolts = 2000; bolts < 24000; bolts += 50) {
+            CurtainHouse x = dearHouse(bolts);
+            tell(x, text, length);
+            x.plan(0);
+            x.cut(0);
         }
-        atMost("milliseconds of some 300 of the dearest calls", (System.nanoTime() - start) / 1000000, 60000);
+        atMost("milliseconds of 880 of the dearest calls", (System.nanoTime() - start) / 1000000, 60000);
+    }
+
+    public static void main(String[] args) throws IllegalAccessException {
+        int[] text = packed(dearText());
+        int length = dearText().length();
+        int[] bad = packed("window a:wide 1");
+        // Once without counting, since the machine makes things of its own when it loads a class.
+        laterCalls(dearHouse(20000), text, length, bad);
+        newObject();
+        objectsAndElements(text, length);
+        callsOfMany(text, length, bad);
+        dearestCalls(text, length);
         System.out.println(wrong == 0 ? "the room is kept" : wrong + " answers are not as due");
         if (wrong != 0) {
             System.exit(1);
